@@ -1146,11 +1146,6 @@ public final class WageHats {
         int lost;
         int chance = 1;
 
-        Weeks() {
-            Arrays.fill(drew, NONE);
-            Arrays.fill(said, NONE);
-        }
-
         /** Hours are 0 anew already, by the town that was read. */
         void startAnew() {
             Arrays.fill(drawn, 0);

@@ -299,6 +299,9 @@ final class FaultTest {
         bad(1, SORT + "works s ( 1 ^; when all;");
         bad(1, SORT + "works s 1 ^) when all;");
         bad(1, SORT + "works s min ^1 when all;");
+        bad(1, SORT + "works s min ^when all;");
+        bad(1, SORT + "works s max ^+ 1 when all;");
+        bad(1, SORT + "works s 1 when min ^< 1;");
         bad(1, SORT + "works s min ( 1 ^) when all;");
         bad(1, SORT + "works s min ( 1 , 2 ^, 3 ) when all;");
         bad(1, SORT + "works s min^1 ( 1 , 2 ) when all;");

@@ -1,6 +1,14 @@
+import java.util.Arrays;
+
 /** Promises 17 to 30: parts, looks, sizes, kinds, ends, pairs, wishes, partings and rings. */
 final class HatsTest {
     private static final int NOTHING = -1000000000;
+    private static final String LATE_RING = "hours 12; sort a brings 11 tires 66 mind 87 pride 0 need 1; sort c brings 1 tires 39 mind 7 pride 953 need 3;"
+            + "hat h keeps 24 least 10 looks 71 even; person p sort c; person q sort a; in p h; in q h;";
+    private static final String RING_OF_THREE = "hours 12; sort a brings 99 tires 16 mind 100 pride 0 need 1;"
+            + "sort b brings 1 tires 19 mind 89 pride 634 need 3; hat h keeps 8 least 3 looks 91 after;"
+            + "person p sort b; person q sort b; person r sort a; person s sort a; person t sort b;"
+            + "in p h; in q h; in r h; in s h; in t h; pair p q;";
 
     private HatsTest() {
     }
@@ -8,11 +16,14 @@ final class HatsTest {
     static void runAll() {
         part();
         look();
+        partBelowZero();
         lookFromTheHoursOfNow();
+        lookAtEach();
         size();
         many();
         under();
         ends();
+        endsOfOneHour();
         alike();
         ring();
         pair();
@@ -51,6 +62,14 @@ final class HatsTest {
         Check.due("all with it", x.all(), 5050);
     }
 
+    /** p tires itself for pride, whatever is kept: 100 times 10 for q, less 99 * 25 + 999 * 5. */
+    private static void partBelowZero() {
+        WageHats x = Texts.townOf("hours 10; sort a brings 0 tires 99 mind 0 pride 999 need 1; sort b brings 1 tires 0 mind 0 pride 0 need 1;"
+                + "hat h keeps 50 least 0 looks 0 even; person p sort a; person q sort b; in p h; in q h;");
+        Check.due("part of like ones below 0", x.part(0, 0), 0);
+        Check.due("its worth", x.part(0, 1), 1000 - 2475 - 4995);
+    }
+
     /** By looks of 10 q, beside two hours of p, finds four worth 1416 and two 1404 (by 9 1424); then p follows. */
     private static void look() {
         WageHats x = two("4", "88");
@@ -69,6 +88,18 @@ final class HatsTest {
         x.put(1, 10);
         Check.due("with one that works already", x.look(0), 44);
         Check.due("a least that none may work", two("11", "0").look(0), -1);
+    }
+
+    /** With looks of 99 q's work leaves p 9 for nothing, more than the 4 of least hours; with 100 nothing. */
+    private static void lookAtEach() {
+        WageHats x = Texts.townOf("hours 9; sort a brings 0 tires 56 mind 0 pride 0 need 1; sort b brings 2 tires 0 mind 0 pride 0 need 7;"
+                + "hat h keeps 0 least 4 looks 0 even; person p sort a; person q sort b; in p h; in q h;");
+        x.put(1, 9);
+        Check.due("looks of 100", x.look(0), 100);
+        x = Texts.townOf("hours 9; sort a brings 0 tires 57 mind 0 pride 0 need 1; sort b brings 2 tires 0 mind 0 pride 0 need 7;"
+                + "hat h keeps 0 least 4 looks 0 even; person p sort a; person q sort b; in p h; in q h;");
+        x.put(1, 9);
+        Check.due("the first one never does", x.look(0), -1);
     }
 
     private static void size() {
@@ -147,6 +178,16 @@ final class HatsTest {
         }
     }
 
+    /** An hour is worth 1 beside another one's, less than 0 beside none. */
+    private static void endsOfOneHour() {
+        WageHats x = Texts.townOf("hours 1; sort a brings 1 tires 99 mind 0 pride 0 need 1; hat h keeps 0 least 1 looks 99 even;"
+                + "person p sort a; person q sort a; in p h; in q h;");
+        int[] due = {0, 2, 0, 2, 0};
+        for (int what = 0; what < due.length; what++) {
+            Check.due("ends of one hour " + what, x.ends(what), due[what]);
+        }
+    }
+
     private static void alike() {
         WageHats x = two("0", "0");
         x.put(0, 4);
@@ -162,7 +203,7 @@ final class HatsTest {
         Check.due("the most one may", x.alike(0), 4);
     }
 
-    /** Rounds that go round in a ring of two are sixty all the same. */
+    /** Rounds that go round in a ring are sixty all the same. */
     private static void ring() {
         WageHats x = Texts.townOf(WorthTest.RING);
         x.put(0, 8);
@@ -170,6 +211,38 @@ final class HatsTest {
         Check.due("sixty from 8 8", x.under(0, 2, 1), 16);
         x.rest(1);
         Check.due("sixty from 7 7", x.under(0, 2, 1), 14);
+        for (int start = 0; start < 81; start++) {
+            sixty(WorthTest.RING, start % 9, start / 9);
+        }
+        sixty(LATE_RING, 12, 12);
+        for (int p = 0; p <= 12; p++) {
+            sixty(LATE_RING, p, 12);
+        }
+        Check.due("a ring of three", sixty(RING_OF_THREE, 12, 0, 5, 2, 12), -2);
+        Check.due("one round on", sixty(RING_OF_THREE, 12, 0, 5, 2, 11), -2);
+        for (int start = 0; start < 250; start++) {
+            sixty(RING_OF_THREE, start % 13, start % 12, start % 11, start % 7, start % 13);
+        }
+    }
+
+    /** What would be behind sixty rounds is what is behind them; what rest(60) answers. */
+    private static int sixty(String town, int... hours) {
+        WageHats x = Texts.townOf(town);
+        for (int p = 0; p < hours.length; p++) {
+            x.put(p, hours[p]);
+        }
+        int kind = x.hat(0, 3);
+        int worths = x.under(0, kind, 0);
+        int work = x.under(0, kind, 1);
+        int rounds = x.rest(60);
+        String label = "sixty rounds from " + Arrays.toString(hours);
+        Check.due(label + ", worths", worths, x.all());
+        int together = 0;
+        for (int p = 0; p < hours.length; p++) {
+            together += x.person(p, 2);
+        }
+        Check.due(label + ", hours", work, together);
+        return rounds;
     }
 
     private static void pair() {
@@ -293,6 +366,10 @@ final class HatsTest {
         x.put(1, 5);
         Check.due("alone is like, none leaves", x.rings(0, 0), -1);
         Check.due("of an empty hat", x.rings(1, 0), -1);
+        WageHats one = Texts.townOf("hours 1; sort a brings 1 tires 0 mind 0 pride 0 need 1; hat h keeps 0 least 2 looks 1 even;"
+                + "person p sort a; in p h;");
+        one.put(0, 1);
+        Check.due("by one hundredth", one.rings(0, 0), 0);
         Check.due("of no hat", x.rings(2, 0), -1);
         Check.due("of no hat below", x.rings(-1, 0), -1);
         Check.due("the -1st", x.rings(0, -1), -1);

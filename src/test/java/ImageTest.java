@@ -11,6 +11,7 @@ final class ImageTest {
     static void runAll() {
         imageOfNone();
         imageOfATown();
+        imageOfTwelve();
         takenImages();
         refusedImages();
         whatStays();
@@ -68,6 +69,26 @@ final class ImageTest {
         Check.due("octet min", x.octet(Integer.MIN_VALUE), -1);
         x.image();
         Check.due("of the latest", x.octet(4), -1);
+    }
+
+    private static void imageOfTwelve() {
+        StringBuilder text = new StringBuilder("sort a brings 1 tires 0 mind 0 pride 0 need 1; hat h keeps 0 least 0 looks 0 even;");
+        int[] due = new int[52];
+        due[0] = 12;
+        for (int p = 0; p < 12; p++) {
+            text.append("person p").append((char) ('a' + p)).append(" sort a;");
+            due[4 * p + 2] = p;
+        }
+        due[49] = 1;
+        due[50] = 4;
+        WageHats x = Texts.townOf(text.toString());
+        Check.due("of twelve, taken", takes(x, Arrays.copyOf(due, 51)), true);
+        Check.due("of twelve", x.image(), 52);
+        due[51] = check(due, 51);
+        for (int k = 0; k < 52; k++) {
+            Check.due("of twelve, octet " + k, x.octet(k), due[k]);
+        }
+        Check.due("of twelve, octet 52", x.octet(52), -1);
     }
 
     private static void takenImages() {

@@ -16,6 +16,7 @@ final class WeeksTest {
         facts();
         sums();
         tests();
+        longRules();
         ownSlip();
         wrongRuns();
         lastWeek();
@@ -227,7 +228,7 @@ final class WeeksTest {
         String[] hold = {"all", "1 < 2", "2 > 1", "1 = 1", "not 1 = 2", "all and 1 = 1", "1 = 2 or all", "all or all and 1 = 2",
             "1 = 2 and 1 = 2 or all", "not [1 = 2 and 1 = 2]", "not not all", "[all]", "not 1 < 1 and all", "1 = 2 or 1 = 2 or all",
             "1 + 1 = 2", "3 - 1 < 2 * 2", "not all or all", "[1 = 2 or all] and all"};
-        String[] fail = {"not all", "2 < 1", "1 < 1", "1 > 2", "1 > 1", "1 = 2", "all and 1 = 2", "1 = 2 or 2 = 1",
+        String[] fail = {"not all", "not 1 = 1", "not 1 < 2", "not 2 > 1", "2 < 1", "1 < 1", "1 > 2", "1 > 1", "1 = 2", "all and 1 = 2", "1 = 2 or 2 = 1",
             "[all or all] and 1 = 2", "not 1 = 2 and 1 = 2", "not [1 = 2 or all]", "not not not all", "all and all and 2 = 3",
             "not all and all", "not [all and all]"};
         for (String test : hold) {
@@ -238,6 +239,17 @@ final class WeeksTest {
         }
         Check.due("the first that holds", hoursBy("1 when not all; works a 2 when all; works a 3", "all"), 2);
         Check.due("of its sort", hoursBy("1 when not all; works b 2 when all; works a 3", "all"), 3);
+    }
+
+    /** Rules of older towns take no room. */
+    private static void longRules() {
+        String text = "sort a brings 1 tires 0 mind 0 pride 0 need 1;person p sort a;works a 0" + "+0".repeat(680) + "+7 when all;";
+        WageHats x = new WageHats();
+        for (int i = 0; i < 4; i++) {
+            Check.due("a long town", Texts.town(x, text), 3);
+            x.run(1);
+            Check.due("its rule", x.person(0, 2), 7);
+        }
     }
 
     /** By the seed 1 p draws q's slip first, then its own; an after hat gives no own one, nor a week behind. */
