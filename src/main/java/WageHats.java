@@ -756,7 +756,7 @@ public final class WageHats {
                     sum += slip;
                     needs += scene.needOf(p);
                     top = Math.max(top, at(people.hours, p));
-                    mateThere |= at(people.mate, person) == p;
+                    mateThere = mateThere || at(people.mate, person) == p;
                 }
             }
         }
@@ -1288,7 +1288,7 @@ public final class WageHats {
         }
     }
 
-    /** A text cut into own words (by their number), names, numbers and signs; where a blank is missing the later one is STUCK. */
+    /** A text cut into own words (by number), names, numbers, signs; for want of a blank the later one is STUCK. */
     private static final class Tokens {
         static final String OWN_WORDS = "hours sort brings tires mind pride need hat keeps least looks after before even share person in pair works when or and not all many week last most drawn own kept min max ";
         static final int WORDS = 33;

@@ -11,6 +11,7 @@ public final class AllTests {
         HatsTest.runAll();
         WeeksTest.runAll();
         ImageTest.runAll();
+        FuzzTest.runAll();
         ModelTest.runAll();
         System.out.println(Check.summary());
         if (Check.failures() > 0) {

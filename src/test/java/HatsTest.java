@@ -330,7 +330,7 @@ final class HatsTest {
         chase();
     }
 
-    /** q, that brings nothing, follows p; p goes away from it: never stable. */
+    /** q, that brings nothing, follows p into a hat; p goes away from it, alone, where nobody can follow. */
     private static void chase() {
         WageHats x = Texts.townOf("hours 5; sort a brings 10 tires 0 mind 0 pride 0 need 1; sort z brings 0 tires 0 mind 0 pride 0 need 1;"
                 + "hat h keeps 0 least 0 looks 0 even; hat g keeps 0 least 0 looks 0 even;"
