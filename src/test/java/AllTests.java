@@ -11,6 +11,11 @@ public final class AllTests {
         HatsTest.runAll();
         WeeksTest.runAll();
         ImageTest.runAll();
+        TextEdges.runAll();
+        CallEdges.runAll();
+        WorthEdges.runAll();
+        HatEdges.runAll();
+        WeekEdges.runAll();
         FuzzTest.runAll();
         ModelTest.runAll();
         System.out.println(Check.summary());

@@ -20,7 +20,7 @@ final class FaultTest {
         goodTexts();
     }
 
-    private static void bad(int kind, String marked) {
+    static void bad(int kind, String marked) {
         int place = marked.indexOf('^');
         String text = marked.substring(0, place) + marked.substring(place + 1);
         WageHats x = new WageHats();
@@ -29,7 +29,7 @@ final class FaultTest {
         Check.due("town " + marked + " fault(1)", x.fault(1), place);
     }
 
-    private static void good(int statements, String text) {
+    static void good(int statements, String text) {
         WageHats x = new WageHats();
         Check.due("town " + text, Texts.town(x, text), statements);
         Check.due("town " + text + " fault(0)", x.fault(0), 0);
