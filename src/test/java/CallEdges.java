@@ -23,6 +23,7 @@ final class CallEdges {
         townRefused();
         townAnew();
         townsByTurns();
+        nothingOfLargerTowns();
         fault();
         has();
         letters();
@@ -273,6 +274,59 @@ final class CallEdges {
             x.run(1);
             Check.due("no rule is left", x.person(0, 2) + x.person(1, 2), 0);
         }
+    }
+
+    /** Where twelve were, all in one hat and in pairs, two are as in a new object. */
+    private static void nothingOfLargerTowns() {
+        StringBuilder large = new StringBuilder("hours 60;sort a brings 99 tires 3 mind 100 pride 9 need 9;hat f keeps 0 least 60 looks 100 before;"
+                + "hat g keeps 0 least 60 looks 100 before;hat h keeps 0 least 60 looks 100 before;hat i keeps 0 least 60 looks 100 before;");
+        for (char c = 'a'; c <= 'l'; c++) {
+            large.append("person p").append(c).append(" sort a;in p").append(c).append(" f;");
+        }
+        large.append("pair pa pc;pair pb pd;pair pl pk;works a 60 when all;");
+        String small = "hours 9;sort a brings 7 tires 30 mind 40 pride 5 need 2;hat f keeps 20 least 3 looks 60 after;person p sort a;person q sort a;in p f;in q f;";
+        for (int turns = 1; turns <= 2; turns++) {
+            WageHats x = new WageHats();
+            for (int turn = 0; turn < 2; turn++) {
+                Texts.town(x, large.toString());
+                for (int p = 0; p < 12; p++) {
+                    x.said(p, 60);
+                }
+                x.run(2);
+                x.part(0, 0);
+            }
+            x.size(0, 0, 20, 0);
+            x.image();
+            for (int turn = 0; turn < turns; turn++) {
+                Texts.town(x, small);
+            }
+            WageHats due = Texts.townOf(small);
+            x.seed(3);
+            due.seed(3);
+            x.image();
+            due.image();
+            asAsked("small town " + turns, x, due);
+            Witness.alike("small town " + turns, x, due);
+        }
+    }
+
+    private static void asAsked(String label, WageHats x, WageHats due) {
+        for (int what = 0; what < 2; what++) {
+            Check.due(label + ": part " + what, x.part(0, what), due.part(0, what));
+            Check.due(label + ": size " + what, x.size(0, 0, 3, what), due.size(0, 0, 3, what));
+            Check.due(label + ": under " + what, x.under(0, 1, what), due.under(0, 1, what));
+            Check.due(label + ": alike " + what, x.alike(what), due.alike(what));
+            Check.due(label + ": rings " + what, x.rings(0, what), due.rings(0, what));
+            Check.due(label + ": wish " + what, x.wish(what), due.wish(what));
+            Check.due(label + ": gap " + what, x.gap(what), due.gap(what));
+        }
+        for (int what = 0; what < 5; what++) {
+            Check.due(label + ": ends " + what, x.ends(what), due.ends(what));
+        }
+        Check.due(label + ": look", x.look(0), due.look(0));
+        Check.due(label + ": all", x.all(), due.all());
+        Check.due(label + ": proof", x.proof(), due.proof());
+        Check.due(label + ": stable", x.stable(), due.stable());
     }
 
     /** 0 without, and ahead of any; its place NONE without; NONE for another what. */

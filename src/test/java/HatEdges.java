@@ -18,20 +18,25 @@ final class HatEdges {
         partAtBothEnds();
         partOfLikeOnes();
         partBehindSixty();
+        partOfALadder();
         partFromNow();
         lookAtBothEnds();
         lookOfNobody();
         lookAtTheHatAlone();
         lookBehindSixty();
+        lookAtALadder();
         sizeArguments();
         sizeAsATown();
         sizeBehindSixty();
+        sizeOfTwenty();
         sizeOutOfNothing();
         sizeWithoutPairs();
         manyOfLikeOnes();
         underEachKind();
+        underOfALadder();
         underArguments();
         endsAsPut();
+        endsOfALadder();
         endsAlikeByEach();
         alikeAtBothEnds();
         pairsTogether();
@@ -146,6 +151,24 @@ final class HatEdges {
         Check.due("one round more", partBehind(61, 0, 0, 4), 5);
     }
 
+    /** All WORTHS of each part behind 60 ROUNDS, where with keeps of 0 the 61st still changes some. */
+    private static void partOfALadder() {
+        int best = 0;
+        int most = Integer.MIN_VALUE;
+        for (int keeps = 0; keeps <= 100; keeps += 5) {
+            WageHats x = Texts.townOf(WorthEdges.ladder(60, 0));
+            x.keep(0, keeps);
+            int worths = behind(60, x).all();
+            if (worths > most) {
+                most = worths;
+                best = keeps;
+            }
+        }
+        WageHats x = Texts.townOf(WorthEdges.ladder(60, 0));
+        Check.due("part of a ladder", x.part(0, 0), best);
+        Check.due("its worths", x.part(0, 1), most);
+    }
+
     /** From the HOURS of now: an hour pays where the other one works one, else it does not. */
     private static void partFromNow() {
         String text = "hours 1;" + sort("a", 1, 99, 0, 0, 1) + hat("h", 0, 1, 99, "even") + in(2);
@@ -220,6 +243,15 @@ final class HatEdges {
         Check.due("one round more", lookBehind(61, 7, 1), 9);
     }
 
+    /** Behind 60 ROUNDS p works 59 hours, q 60. */
+    private static void lookAtALadder() {
+        Check.due("least of 59", Texts.townOf(WorthEdges.ladder(60, 59)).look(0), 0);
+        WageHats x = Texts.townOf(WorthEdges.ladder(60, 60));
+        Check.due("least of 60 needs looks", x.look(0) != 0, true);
+        x.put(1, 1);
+        Check.due("least of 60, one round ahead", x.look(0), 0);
+    }
+
     // ---- promises 19 and 20
 
     /** n 1 .. 20; HOURS (what 0), WORTH (1). */
@@ -280,6 +312,17 @@ final class HatEdges {
             Check.due("hours of " + n, x.size(0, 0, n, 0), m.size(0, 0, n, 0));
             Check.due("worth of " + n, x.size(0, 0, n, 1), m.size(0, 0, n, 1));
         }
+    }
+
+    /** An hour brings each of n 1000 / n, the h-th one tires by 2 h - 1: all work the most, 9 of them. */
+    private static void sizeOfTwenty() {
+        WageHats x = Texts.townOf("hours 9;" + sort("z", 0, 0, 0, 0, 1) + sort("a", 10, 1, 0, 0, 1) + hat("g", 0, 9, 99, "even") + hat("h", 0, 0, 0, "even") + "person p sort z;");
+        for (int n = 1; n <= 20; n++) {
+            Check.due("hours of " + n, x.size(1, 1, n, 0), 9);
+            Check.due("worth of " + n, x.size(1, 1, n, 1), 9000 - 81);
+        }
+        Check.due("the other sort's", x.size(0, 1, 20, 1), 0);
+        Check.due("many", x.many(1, 1), 1);
     }
 
     /** From 0 HOURS on, alone: whoever works in the town, and in the hat, does not count; but keeps of now do. */
@@ -345,6 +388,20 @@ final class HatEdges {
         Check.due("behind sixty from one on", behind(1, ring).under(0, 2, 1), 14);
     }
 
+    /** Behind 60 ROUNDS, from the HOURS of now: a ladder is at 59 and 60, one round ahead at 60 and 60. */
+    private static void underOfALadder() {
+        WageHats x = Texts.townOf(WorthEdges.ladder(60, 0));
+        WageHats due = behind(60, Texts.townOf(WorthEdges.ladder(60, 0)));
+        for (int kind = 0; kind < 2; kind++) {
+            Check.due("a ladder's hours under " + kind, x.under(0, kind, 1), 119);
+            Check.due("a ladder's worths under " + kind, x.under(0, kind, 0), due.all());
+        }
+        x.put(0, 44);
+        Check.due("p is the first to change", x.under(0, 0, 1), 119);
+        x.put(1, 1);
+        Check.due("one round ahead", x.under(0, 0, 1), 120);
+    }
+
     /** KIND 0 .. 3, what 0 and 1. */
     private static void underArguments() {
         WageHats x = works(sort("a", 10, 99, 0, 0, 1) + hat("h", 0, 0, 0, "even") + hat("g", 0, 0, 0, "even") + in(2), 1, 1);
@@ -396,6 +453,20 @@ final class HatEdges {
         Check.due("from above, behind sixty", ring.ends(1), 16);
         Check.due("behind 59", hoursOfAll(behind(59, rounds)), 14);
         Check.due("behind 61", hoursOfAll(behind(61, works(WorthTest.RING, 8, 8))), 14);
+    }
+
+    /** Behind 60 ROUNDS from 0 HOURS of all p works 59, q 60; from the most of all both work 60. */
+    private static void endsOfALadder() {
+        WageHats x = Texts.townOf(WorthEdges.ladder(60, 0));
+        x.put(0, 7);
+        x.put(1, 3);
+        WageHats below = behind(60, Texts.townOf(WorthEdges.ladder(60, 0)));
+        WageHats above = works(WorthEdges.ladder(60, 0), 60, 60);
+        int[] due = {119, 120, below.all(), above.all(), 0};
+        for (int what = 0; what < 5; what++) {
+            Check.due("ends of a ladder " + what, x.ends(what), due[what]);
+        }
+        Check.due("of 59 hours all are alike", Texts.townOf(WorthEdges.ladder(59, 0)).ends(4), 1);
     }
 
     /** Whether the HOURS of all are alike: 2 and 1 from below, 1 and 2 from above are not, though together they are. */

@@ -129,7 +129,7 @@ final class ImageTest {
             if (c != whole[15]) {
                 int[] bytes = whole.clone();
                 bytes[15] = c;
-                Check.due("check byte " + c, Texts.image(x, bytes), false);
+                Check.due("check byte " + c, Texts.image(Texts.townOf(TOWN), bytes), false);
             }
         }
         Check.due("too short", takes(x, Arrays.copyOf(good, 14)), false);

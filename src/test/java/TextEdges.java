@@ -271,6 +271,10 @@ final class TextEdges {
         Check.due("rules", x.has(4), 12);
         x.run(1);
         Check.due("by the twelfth", x.person(0, 2), 12);
+        x = Texts.townOf(SORT + SORT.replace("sort s", "sort t") + "works s 1 when all;".repeat(11) + "works t 12 when 1 < 2;person p sort s;person q sort t;");
+        x.run(1);
+        Check.due("the twelfth is not of the first sort", x.person(0, 2), 1);
+        Check.due("it is of the second", x.person(1, 2), 12);
     }
 
     /** Twelve persons are six pairs; the sixth is whole. */

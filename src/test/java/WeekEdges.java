@@ -312,6 +312,11 @@ final class WeekEdges {
         x.move(2, 1);
         x.run(1);
         Check.due("most without another one", x.person(0, 2), 0);
+        x = Texts.townOf(text.replace("works a most", "works a most + 1"));
+        x.move(1, -1);
+        x.move(2, 1);
+        x.run(1);
+        Check.due("0 without another one", x.person(0, 2), 1);
     }
 
     /** drawn: DRAWN of the last WEEK (0 at first), of an image too. */

@@ -27,6 +27,7 @@ final class WorthEdges {
         byNumber();
         roundsCounted();
         roundsAtMost();
+        sixtyRounds();
         worthArguments();
         worthsTogether();
         proof();
@@ -338,6 +339,30 @@ final class WorthEdges {
             Check.due("rest " + n, x.rest(n), -1);
             Check.due("hours stay", x.person(0, 2) * 10 + x.person(1, 2), 88);
         }
+    }
+
+    /** Out of idleness p takes as many hours as q has, q then one more: behind n rounds n - 1 and n, till the most. */
+    static String ladder(int most, int least) {
+        return "hours " + most + ";" + sort("a", 35, 1, 100, 612, 1) + sort("b", 34, 23, 97, 0, 1) + hat(0, least, 0, "after")
+                + "person p sort a;person q sort b;in p h;in q h;";
+    }
+
+    /** The most is reached by both in one round more, and one more changes nothing. */
+    private static void sixtyRounds() {
+        for (int n = 1; n <= 60; n++) {
+            WageHats x = Texts.townOf(ladder(60, 0));
+            Check.due("a ladder of " + n, x.rest(n), -2);
+            Check.due("p behind " + n, x.person(0, 2), n - 1);
+            Check.due("q behind " + n, x.person(1, 2), n);
+        }
+        int[][] due = {{3, 5}, {56, 58}, {57, 59}, {58, 60}, {59, -2}, {60, -2}};
+        for (int[] row : due) {
+            Check.due("a ladder to " + row[0], Texts.townOf(ladder(row[0], 0)).rest(60), row[1]);
+        }
+        Check.due("not within 59", Texts.townOf(ladder(58, 0)).rest(59), -2);
+        WageHats x = Texts.townOf(ladder(59, 0));
+        x.rest(60);
+        Check.due("the 61st changes nothing", x.rest(60), 1);
     }
 
     /** With these HOURS (NONE: as they are); NOTHING when something can't be. */
