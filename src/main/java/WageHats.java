@@ -1334,7 +1334,7 @@ public final class WageHats {
                 if (sign != ' ' && sign != 10) {
                     int wide = spanAt(text, length, place);
                     add(text, place, wide);
-                    place += wide - 1;
+                    place += Math.max(0, wide - 1);
                 }
             }
             set(what, count, END);

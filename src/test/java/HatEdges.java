@@ -323,6 +323,10 @@ final class HatEdges {
         }
         Check.due("the other sort's", x.size(0, 1, 20, 1), 0);
         Check.due("many", x.many(1, 1), 1);
+        x = Texts.townOf("hours 9;" + sort("a", 10, 1, 0, 0, 1) + hat("h", 0, 0, 0, "even"));
+        for (int n = 1; n <= 20; n++) {
+            Check.due("worth of " + n + ", first sort and hat", x.size(0, 0, n, 1), 9000 - 81);
+        }
     }
 
     /** From 0 HOURS on, alone: whoever works in the town, and in the hat, does not count; but keeps of now do. */
